@@ -32,6 +32,9 @@ public final class RuleTextTest {
         Checks.collect(x, "hard tag 1 must: ");
         x.sign(-1);
         checks.due("255 is no sign of a message", x.rule(), -1 - 17);
+        Checks.collect(x, "hard tag 1 must: ");
+        x.sign('x' + 128);
+        checks.due("the eighth bit counts", x.rule(), -1 - 17);
     }
 
     private static void longTexts(Checks checks) {
@@ -95,6 +98,9 @@ public final class RuleTextTest {
         checks.dueWrong("", 0);
         checks.dueWrong(" hard tag 1 must", 0);
         checks.dueWrong("hurd tag 1 must", 0);
+        checks.dueWrong("yard tag 1 must", 0);
+        checks.dueWrong("hard sag 1 must", 5);
+        checks.dueWrong("hard tap 1 must", 5);
         checks.dueWrong("Hard tag 1 must", 0);
         checks.dueWrong("harD tag 1 must", 0);
         checks.dueWrong("hardy tag 1 must", 0);
@@ -192,6 +198,8 @@ public final class RuleTextTest {
         checks.dueWrong(list + "1,2,3,4,5,6,7,8,9,10 and", 20);
         checks.dueWrong(list + "-1,2,3,4,5,6,7,8,-9: m", 20);
         checks.dueWrong(list + "1,x,3,4,5,6,7,8,9", 22);
+        checks.dueWrong(list + "1,2,3,4,5,6,7,8,", 36);
+        checks.dueWrong(list + "1,2,3,4,5,6,7,8,x", 36);
     }
 
     private static void wrongJoins(Checks checks) {

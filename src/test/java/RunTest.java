@@ -75,6 +75,10 @@ public final class RunTest {
         checks.due("its own field", x.broken(0, 2), 1);
         checks.dueRun("a record without fields", x, 2, 2);
         checks.due("no field", x.broken(0, 2), 0);
+        x.field(3, 7, 1);
+        x.field(2, 7, 1);
+        checks.due("the rule", x.broken(1, 0), 4);
+        checks.due("a field of the record that came behind the run", x.broken(1, 2), 9);
     }
 
     private static void noRecord(Checks checks) {

@@ -8,6 +8,7 @@ public final class TermsTest {
         value(checks);
         like(checks);
         before(checks);
+        firstOfAll(checks);
         sum(checks);
         share(checks);
         joins(checks);
@@ -145,6 +146,17 @@ public final class TermsTest {
         holds(checks, "tag 1 before 2", false, 1, 0, 2, 0, 1, 0);
         holds(checks, "tag 1 before 1", true, 1, 0);
         holds(checks, "tag 1 before 1", false, 1, 0, 1, 0);
+    }
+
+    /** The first field and the first subfield of the whole object count like any other. */
+    private static void firstOfAll(Checks checks) {
+        CheckRules2 x = Checks.with("hard tag 1 before 2", "hard tag 2 sub a must", "hard tag 2 sub a in 5");
+        x.field(0, 2, 1);
+        x.subfield(1, 'a', 6);
+        x.field(0, 1, 1);
+        checks.dueRun("the first of all", x, 0, 2);
+        checks.due("before", x.broken(0, 0), 0);
+        checks.due("in", x.broken(1, 0), 2);
     }
 
     private static void sum(Checks checks) {
