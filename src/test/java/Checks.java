@@ -1,6 +1,9 @@
+import java.util.Arrays;
+
 /** What the tests share: comparing answers, and telling texts to an object sign by sign. */
 final class Checks {
     private final String name;
+    private String sentence = "";
     private int asked = 0;
     private int wrong = 0;
 
@@ -8,11 +11,16 @@ final class Checks {
         this.name = name;
     }
 
+    /** The document's sentence that the next answers belong to, so that a failure names it. */
+    void sentence(String words) {
+        sentence = " (" + words + ")";
+    }
+
     void due(String call, long got, long want) {
         asked++;
         if (got != want) {
             wrong++;
-            System.out.println(name + ": " + call + " answered " + got + ", due is " + want);
+            System.out.println(name + sentence + ": " + call + " answered " + got + ", due is " + want);
         }
     }
 
@@ -47,6 +55,22 @@ final class Checks {
 
     void dueRight(String text) {
         due("rule \"" + text + "\"", tell(new CheckRules2(), text), 0);
+    }
+
+    /** Whether a TEST holds for record 0, told and negated; fields are rows of tag and value. */
+    void dueHolds(String test, boolean want, int... fields) {
+        CheckRules2 x = with("hard " + test, "hard not " + test);
+        // Another record's fields must not count.
+        for (int tag = 0; tag < 5; tag++) {
+            x.field(1, tag, 77);
+        }
+        for (int i = 0; i + 1 < fields.length; i += 2) {
+            x.field(0, fields[i], fields[i + 1]);
+            x.field(2, fields[i], fields[i + 1]);
+        }
+        String call = test + " of " + Arrays.toString(fields);
+        dueRun(call, x, 0, 1);
+        due(call, x.broken(0, 0), want ? 1 : 0);
     }
 
     void end() {

@@ -53,8 +53,6 @@ public final class RuleTextTest {
         CheckRules2 x = Checks.with(text + "23456789");
         x.field(0, 1, 123);
         checks.dueRun("the 250th sign counts, the 251st does not", x, 0, 0);
-        Checks.collect(x, text + " and more than 250 signs");
-        x.rule();
         checks.due("nothing is collected any more", Checks.tell(x, "hard tag 1 must"), 1);
     }
 

@@ -17,34 +17,18 @@ public final class TermsTest {
         checks.end();
     }
 
-    /** Whether TESTS hold for record 0, told and negated; fields are rows of tag and value. */
-    private static void holds(Checks checks, String test, boolean want, int... fields) {
-        CheckRules2 x = Checks.with("hard " + test, "hard not " + test);
-        // Another record's fields must not count.
-        for (int tag = 0; tag < 5; tag++) {
-            x.field(1, tag, 77);
-        }
-        for (int i = 0; i + 1 < fields.length; i += 2) {
-            x.field(0, fields[i], fields[i + 1]);
-            x.field(2, fields[i], fields[i + 1]);
-        }
-        String call = test + " of " + java.util.Arrays.toString(fields);
-        checks.dueRun(call, x, 0, 1);
-        checks.due(call, x.broken(0, 0), want ? 1 : 0);
-    }
-
     private static void mustAndOnce(Checks checks) {
-        holds(checks, "tag 1 must", false);
-        holds(checks, "tag 1 must", false, 2, 1, 11, 1);
-        holds(checks, "tag 1 must", true, 2, 1, 1, 0);
-        holds(checks, "tag 1 must", true, 1, 5, 1, 5);
-        holds(checks, "tag 0 must", true, 0, 5);
-        holds(checks, "tag 999 must", true, 999, 5);
-        holds(checks, "tag 012 must", true, 12, 5);
-        holds(checks, "tag 1 once", true);
-        holds(checks, "tag 1 once", true, 1, 5, 2, 5, 2, 5);
-        holds(checks, "tag 1 once", false, 1, 5, 2, 5, 1, 6);
-        holds(checks, "tag 1 once", false, 1, 5, 1, 5, 1, 5);
+        checks.dueHolds("tag 1 must", false);
+        checks.dueHolds("tag 1 must", false, 2, 1, 11, 1);
+        checks.dueHolds("tag 1 must", true, 2, 1, 1, 0);
+        checks.dueHolds("tag 1 must", true, 1, 5, 1, 5);
+        checks.dueHolds("tag 0 must", true, 0, 5);
+        checks.dueHolds("tag 999 must", true, 999, 5);
+        checks.dueHolds("tag 012 must", true, 12, 5);
+        checks.dueHolds("tag 1 once", true);
+        checks.dueHolds("tag 1 once", true, 1, 5, 2, 5, 2, 5);
+        checks.dueHolds("tag 1 once", false, 1, 5, 2, 5, 1, 6);
+        checks.dueHolds("tag 1 once", false, 1, 5, 1, 5, 1, 5);
     }
 
     private static void subMust(Checks checks) {
@@ -98,54 +82,54 @@ public final class TermsTest {
     }
 
     private static void value(Checks checks) {
-        holds(checks, "tag 1 value = 5", true);
-        holds(checks, "tag 1 value = 5", true, 1, 5, 2, 6, 1, 5);
-        holds(checks, "tag 1 value = 5", false, 1, 5, 1, 6);
-        holds(checks, "tag 1 value = -5", true, 1, -5);
-        holds(checks, "tag 1 value < 5", true, 1, 4);
-        holds(checks, "tag 1 value < 5", false, 1, 5);
-        holds(checks, "tag 1 value < 5", false, 1, 6, 1, 4);
-        holds(checks, "tag 1 value > 5", true, 1, 6);
-        holds(checks, "tag 1 value > 5", false, 1, 5);
-        holds(checks, "tag 1 value > 5", false, 1, -6);
-        holds(checks, "tag 1 value > -2147483648", false, 1, Integer.MIN_VALUE);
-        holds(checks, "tag 1 value < 2147483647", true, 1, Integer.MIN_VALUE);
-        holds(checks, "tag 1 value = 0000000012", true, 1, 12);
+        checks.dueHolds("tag 1 value = 5", true);
+        checks.dueHolds("tag 1 value = 5", true, 1, 5, 2, 6, 1, 5);
+        checks.dueHolds("tag 1 value = 5", false, 1, 5, 1, 6);
+        checks.dueHolds("tag 1 value = -5", true, 1, -5);
+        checks.dueHolds("tag 1 value < 5", true, 1, 4);
+        checks.dueHolds("tag 1 value < 5", false, 1, 5);
+        checks.dueHolds("tag 1 value < 5", false, 1, 6, 1, 4);
+        checks.dueHolds("tag 1 value > 5", true, 1, 6);
+        checks.dueHolds("tag 1 value > 5", false, 1, 5);
+        checks.dueHolds("tag 1 value > 5", false, 1, -6);
+        checks.dueHolds("tag 1 value > -2147483648", false, 1, Integer.MIN_VALUE);
+        checks.dueHolds("tag 1 value < 2147483647", true, 1, Integer.MIN_VALUE);
+        checks.dueHolds("tag 1 value = 0000000012", true, 1, 12);
     }
 
     private static void like(Checks checks) {
-        holds(checks, "tag 1 like 1#0", true);
-        holds(checks, "tag 1 like 1#0", true, 1, 190, 1, 100);
-        holds(checks, "tag 1 like 1#0", false, 1, 190, 1, 191);
-        holds(checks, "tag 1 like 1#0", false, 1, 290);
-        holds(checks, "tag 1 like 1#0", false, 1, 1190);
-        holds(checks, "tag 1 like 1#0", false, 1, 10);
-        holds(checks, "tag 1 like ##", false, 1, 5);
-        holds(checks, "tag 1 like ##", true, 1, 10);
-        holds(checks, "tag 1 like ##", false, 1, 100);
-        holds(checks, "tag 1 like #", true, 1, 0);
-        holds(checks, "tag 1 like 0", true, 1, 0);
-        holds(checks, "tag 1 like 00", false, 1, 0);
-        holds(checks, "tag 1 like 05", false, 1, 5);
-        holds(checks, "tag 1 like #", false, 1, -5);
-        holds(checks, "tag 1 like ##", false, 1, -5);
-        holds(checks, "tag 1 like ##########", true, 1, Integer.MAX_VALUE);
-        holds(checks, "tag 1 like 21474#3647", true, 1, Integer.MAX_VALUE);
-        holds(checks, "tag 1 like ##########", false, 1, Integer.MIN_VALUE);
-        holds(checks, "tag 1 like ##########", false, 1, 999999999);
-        holds(checks, "tag 1 like 9999999999", false, 1, Integer.MAX_VALUE);
+        checks.dueHolds("tag 1 like 1#0", true);
+        checks.dueHolds("tag 1 like 1#0", true, 1, 190, 1, 100);
+        checks.dueHolds("tag 1 like 1#0", false, 1, 190, 1, 191);
+        checks.dueHolds("tag 1 like 1#0", false, 1, 290);
+        checks.dueHolds("tag 1 like 1#0", false, 1, 1190);
+        checks.dueHolds("tag 1 like 1#0", false, 1, 10);
+        checks.dueHolds("tag 1 like ##", false, 1, 5);
+        checks.dueHolds("tag 1 like ##", true, 1, 10);
+        checks.dueHolds("tag 1 like ##", false, 1, 100);
+        checks.dueHolds("tag 1 like #", true, 1, 0);
+        checks.dueHolds("tag 1 like 0", true, 1, 0);
+        checks.dueHolds("tag 1 like 00", false, 1, 0);
+        checks.dueHolds("tag 1 like 05", false, 1, 5);
+        checks.dueHolds("tag 1 like #", false, 1, -5);
+        checks.dueHolds("tag 1 like ##", false, 1, -5);
+        checks.dueHolds("tag 1 like ##########", true, 1, Integer.MAX_VALUE);
+        checks.dueHolds("tag 1 like 21474#3647", true, 1, Integer.MAX_VALUE);
+        checks.dueHolds("tag 1 like ##########", false, 1, Integer.MIN_VALUE);
+        checks.dueHolds("tag 1 like ##########", false, 1, 999999999);
+        checks.dueHolds("tag 1 like 9999999999", false, 1, Integer.MAX_VALUE);
     }
 
     private static void before(Checks checks) {
-        holds(checks, "tag 1 before 2", true);
-        holds(checks, "tag 1 before 2", true, 1, 0);
-        holds(checks, "tag 1 before 2", true, 2, 0);
-        holds(checks, "tag 1 before 2", true, 1, 0, 1, 0, 3, 0, 2, 0, 2, 0);
-        holds(checks, "tag 1 before 2", false, 2, 0, 1, 0);
-        holds(checks, "tag 1 before 2", false, 2, 0, 3, 0, 1, 0);
-        holds(checks, "tag 1 before 2", false, 1, 0, 2, 0, 1, 0);
-        holds(checks, "tag 1 before 1", true, 1, 0);
-        holds(checks, "tag 1 before 1", false, 1, 0, 1, 0);
+        checks.dueHolds("tag 1 before 2", true);
+        checks.dueHolds("tag 1 before 2", true, 1, 0);
+        checks.dueHolds("tag 1 before 2", true, 2, 0);
+        checks.dueHolds("tag 1 before 2", true, 1, 0, 1, 0, 3, 0, 2, 0, 2, 0);
+        checks.dueHolds("tag 1 before 2", false, 2, 0, 1, 0);
+        checks.dueHolds("tag 1 before 2", false, 2, 0, 3, 0, 1, 0);
+        checks.dueHolds("tag 1 before 2", false, 1, 0, 2, 0, 1, 0);
+        checks.dueHolds("tag 1 before 1", true, 1, 0);
+        checks.dueHolds("tag 1 before 1", false, 1, 0, 1, 0);
     }
 
     /** The first field and the first subfield of the whole object count like any other. */
@@ -160,27 +144,27 @@ public final class TermsTest {
     }
 
     private static void sum(Checks checks) {
-        holds(checks, "sum 1 = 0", true);
-        holds(checks, "sum 1 = 7", true, 1, 9, 2, 5, 1, -2);
-        holds(checks, "sum 1 < 7", false, 1, 9, 1, -2);
-        holds(checks, "sum 1 < 8", true, 1, 9, 1, -2);
-        holds(checks, "sum 1 > 7", false, 1, 9, 1, -2);
-        holds(checks, "sum 1 > 2147483647", true, 1, Integer.MAX_VALUE, 1, 1);
-        holds(checks, "sum 1 < -2147483648", true, 1, Integer.MIN_VALUE, 1, -1);
-        holds(checks, "sum 1 = 0", false, 1, Integer.MIN_VALUE, 1, Integer.MIN_VALUE);
+        checks.dueHolds("sum 1 = 0", true);
+        checks.dueHolds("sum 1 = 7", true, 1, 9, 2, 5, 1, -2);
+        checks.dueHolds("sum 1 < 7", false, 1, 9, 1, -2);
+        checks.dueHolds("sum 1 < 8", true, 1, 9, 1, -2);
+        checks.dueHolds("sum 1 > 7", false, 1, 9, 1, -2);
+        checks.dueHolds("sum 1 > 2147483647", true, 1, Integer.MAX_VALUE, 1, 1);
+        checks.dueHolds("sum 1 < -2147483648", true, 1, Integer.MIN_VALUE, 1, -1);
+        checks.dueHolds("sum 1 = 0", false, 1, Integer.MIN_VALUE, 1, Integer.MIN_VALUE);
     }
 
     private static void share(Checks checks) {
-        holds(checks, "share 1 by 2 = 2", true, 1, 9, 2, 4);
-        holds(checks, "share 1 by 2 = -2", true, 1, -9, 2, 4);
-        holds(checks, "share 1 by 2 = 0", true, 1, -3, 2, 4);
-        holds(checks, "share 1 by 2 = 0", true, 2, 4);
-        holds(checks, "share 1 by 2 = 3", true, 1, 9, 2, 1, 2, 2);
-        holds(checks, "share 1 by 1 = 1", true, 1, -9);
-        holds(checks, "share 1 by 2 > 2147483647", true, 1, Integer.MIN_VALUE, 2, -1);
-        holds(checks, "share 1 by 2 = 2", true, 1, Integer.MAX_VALUE, 1, Integer.MAX_VALUE, 2, Integer.MAX_VALUE);
-        holds(checks, "share 1 by 2 < 2", false, 1, 9, 2, 4);
-        holds(checks, "share 1 by 2 > 1", true, 1, 9, 2, 4);
+        checks.dueHolds("share 1 by 2 = 2", true, 1, 9, 2, 4);
+        checks.dueHolds("share 1 by 2 = -2", true, 1, -9, 2, 4);
+        checks.dueHolds("share 1 by 2 = 0", true, 1, -3, 2, 4);
+        checks.dueHolds("share 1 by 2 = 0", true, 2, 4);
+        checks.dueHolds("share 1 by 2 = 3", true, 1, 9, 2, 1, 2, 2);
+        checks.dueHolds("share 1 by 1 = 1", true, 1, -9);
+        checks.dueHolds("share 1 by 2 > 2147483647", true, 1, Integer.MIN_VALUE, 2, -1);
+        checks.dueHolds("share 1 by 2 = 2", true, 1, Integer.MAX_VALUE, 1, Integer.MAX_VALUE, 2, Integer.MAX_VALUE);
+        checks.dueHolds("share 1 by 2 < 2", false, 1, 9, 2, 4);
+        checks.dueHolds("share 1 by 2 > 1", true, 1, 9, 2, 4);
     }
 
     /** Field 1 is there (holds: tag 1 must), field 2 is not. */
