@@ -72,6 +72,12 @@ public final class TermBoundariesTest {
         checks.dueRun("the others' subfields do not count for it", x, 0, 1);
         x.subfield(4, 'm', 0);
         checks.dueRun("both have one", x, 0, 0);
+        CheckRules2 first = Checks.with("hard tag 3 sub a must", "hard tag 3 sub z must");
+        first.field(0, 3, 0);
+        first.subfield(1, 'a', 0);
+        checks.dueRun("the first subfield of all", first, 0, 1);
+        first.subfield(1, 'z', 0);
+        checks.dueRun("the last one", first, 0, 0);
     }
 
     /** Whether a list has the value of the only subfield. */
@@ -194,6 +200,8 @@ public final class TermBoundariesTest {
         x.field(1, 4, 0);
         x.field(0, 3, 0);
         checks.dueRun("another record's field of tag M", x, 0, 0);
+        x.field(1, 3, 0);
+        checks.dueRun("the first field of all is of tag M, the last of tag N", x, 1, 1);
     }
 
     private static void sumOfNone(Checks checks) {

@@ -22,6 +22,7 @@ public final class TextBoundariesTest {
         testsInARule(checks);
         oneNot(checks);
         smallLetters(checks);
+        otherWords(checks);
         oneSpace(checks);
         textsEnd(checks);
         brokenOffWord(checks);
@@ -219,8 +220,27 @@ public final class TextBoundariesTest {
             for (int at = 0; at < text.length(); at++) {
                 char sign = text.charAt(at);
                 if (sign >= 'a' && sign <= 'z') {
-                    String capital = text.substring(0, at) + Character.toUpperCase(sign) + text.substring(at + 1);
-                    checks.dueWrong(capital, text.lastIndexOf(' ', at) + 1);
+                    String before = text.substring(0, at);
+                    String behind = text.substring(at + 1);
+                    int first = text.lastIndexOf(' ', at) + 1;
+                    checks.dueWrong(before + Character.toUpperCase(sign) + behind, first);
+                    checks.dueWrong(before + (char) (sign + 128) + behind, first);
+                }
+            }
+        }
+        checks.dueWrong("hard` tag 1 must", 4);
+        checks.dueWrong("hard{ tag 1 must", 4);
+    }
+
+    private static void otherWords(Checks checks) {
+        checks.sentence("What does not fit is WRONG at its first sign: a word");
+        for (String text : WHOLE) {
+            for (int at = 0; at < text.length(); at++) {
+                int first = text.lastIndexOf(' ', at) + 1;
+                boolean inWord = text.substring(first).matches("[a-z][a-z].*") && text.charAt(at) != ' ';
+                if (inWord) {
+                    checks.dueWrong(text.substring(0, at) + "q" + text.substring(at + 1), first);
+                    checks.dueWrong(text.substring(0, at) + "q", first);
                 }
             }
         }
@@ -307,6 +327,8 @@ public final class TextBoundariesTest {
                 checks.dueWrong(place[0] + wrong + place[1], first);
             }
             checks.dueWrong(place[0] + "12a" + place[1], first + 2);
+            checks.dueWrong(place[0] + "12/" + place[1], first + 2);
+            checks.dueWrong(place[0] + "12;" + place[1], first + 2);
             checks.dueWrong(place[0] + "123a" + place[1], first + 3);
         }
     }
@@ -340,6 +362,8 @@ public final class TextBoundariesTest {
             }
             checks.dueWrong(before + "7x", first + 1);
             checks.dueWrong(before + "7.", first + 1);
+            checks.dueWrong(before + "7/", first + 1);
+            checks.dueWrong(before + "7:", first + 2);
             checks.dueWrong(before + "7-", first + 1);
             checks.dueWrong(before + "-7-", first + 2);
         }
