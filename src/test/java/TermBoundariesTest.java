@@ -333,6 +333,10 @@ public final class TermBoundariesTest {
         joined(checks, "no when yes", false);
         joined(checks, "yes when no", true);
         joined(checks, "no when no", true);
+        joined(checks, "no or no when no", true);
+        joined(checks, "no and yes when no", true);
+        joined(checks, "no or no when yes", false);
+        joined(checks, "yes and no when yes", false);
     }
 
     /** Whether a run meets the rule: tag 1 must holds, tag 2 must does not, share 3 by 4 fails. */
